@@ -70,25 +70,26 @@ public final class PlanetWorkshop {
         return settle(changes.join(one, other, MESH));
     }
 
-    public int shareAxle(int one, int other) throws IndexOutOfBoundsException, IllegalArgumentException,
-            IllegalStateException, UnsupportedOperationException {
+    public int shareAxle(int one, int other) throws IndexOutOfBoundsException,
+            IllegalArgumentException, IllegalStateException, UnsupportedOperationException {
         before.copyFrom(now);
         return settle(changes.join(one, other, AXLE));
     }
 
-    public int separate(int one, int other) throws IndexOutOfBoundsException, NoSuchElementException {
+    public int separate(int one, int other) throws IndexOutOfBoundsException,
+            NoSuchElementException {
         before.copyFrom(now);
         return settle(changes.cut(one, other));
     }
 
-    public int setSpring(int gear, int size) throws IndexOutOfBoundsException, IllegalArgumentException,
-            IllegalStateException {
+    public int setSpring(int gear, int size) throws IndexOutOfBoundsException,
+            IllegalArgumentException, IllegalStateException {
         before.copyFrom(now);
         return settle(changes.putSpring(gear, size));
     }
 
-    public int wind(int gear, int amount) throws IndexOutOfBoundsException, IllegalArgumentException,
-            NoSuchElementException, IllegalStateException {
+    public int wind(int gear, int amount) throws IndexOutOfBoundsException,
+            IllegalArgumentException, NoSuchElementException, IllegalStateException {
         before.copyFrom(now);
         return settle(changes.tighten(gear, amount));
     }
@@ -98,8 +99,8 @@ public final class PlanetWorkshop {
         return settle(changes.turnRound(gear)) == 1;
     }
 
-    public int release(int gear, int turns) throws IndexOutOfBoundsException, IllegalArgumentException,
-            NoSuchElementException, UnsupportedOperationException {
+    public int release(int gear, int turns) throws IndexOutOfBoundsException,
+            IllegalArgumentException, NoSuchElementException, UnsupportedOperationException {
         before.copyFrom(now);
         return settle(changes.letGo(gear, turns));
     }
@@ -598,16 +599,22 @@ public final class PlanetWorkshop {
         int releases = 0;
 
         void copyFrom(State other) {
-            System.arraycopy(other.teeth, 0, teeth, 0, MAX_GEARS);
-            System.arraycopy(other.angles, 0, angles, 0, MAX_GEARS);
-            System.arraycopy(other.oiled, 0, oiled, 0, MAX_GEARS);
-            System.arraycopy(other.wears, 0, wears, 0, MAX_GEARS);
-            System.arraycopy(other.ratchets, 0, ratchets, 0, MAX_GEARS);
-            System.arraycopy(other.springSizes, 0, springSizes, 0, MAX_GEARS);
-            System.arraycopy(other.tensions, 0, tensions, 0, MAX_GEARS);
-            System.arraycopy(other.reversed, 0, reversed, 0, MAX_GEARS);
-            System.arraycopy(other.jointKinds, 0, jointKinds, 0, MAX_GEARS * MAX_GEARS);
-            System.arraycopy(other.carriers, 0, carriers, 0, MAX_PLANETS);
+            for (int gear = 0; gear < MAX_GEARS; gear++) {
+                teeth[gear] = other.teeth[gear];
+                angles[gear] = other.angles[gear];
+                oiled[gear] = other.oiled[gear];
+                wears[gear] = other.wears[gear];
+                ratchets[gear] = other.ratchets[gear];
+                springSizes[gear] = other.springSizes[gear];
+                tensions[gear] = other.tensions[gear];
+                reversed[gear] = other.reversed[gear];
+            }
+            for (int place = 0; place < MAX_GEARS * MAX_GEARS; place++) {
+                jointKinds[place] = other.jointKinds[place];
+            }
+            for (int planet = 0; planet < MAX_PLANETS; planet++) {
+                carriers[planet] = other.carriers[planet];
+            }
             gears = other.gears;
             joints = other.joints;
             planets = other.planets;

@@ -7,6 +7,7 @@ public final class ChangesTest {
         refusedCallsAreNoChanges();
         undoCovers();
         snapshot();
+        carriersComeBack();
         Check.end("ChangesTest");
     }
 
@@ -134,6 +135,22 @@ public final class ChangesTest {
         Check.same("drops", shop.drops(), 12);
         Check.same("woundTotal", shop.woundTotal(), 0);
         Check.same("a gear with another spring", shop.setSpring(1, 10), 1);
+    }
+
+    /** The same planet is carried by one gear in the snapshot and by another one afterwards. */
+    private static void carriersComeBack() {
+        PlanetWorkshop shop = Tools.withGears(20, 60, 12);
+        shop.addPlanet(1);
+        shop.save();
+        shop.undo();
+        shop.addPlanet(2);
+        Check.same("gearOf(0)", shop.gearOf(0), 2);
+        shop.restore();
+        Check.same("gearOf(0) after restore", shop.gearOf(0), 1);
+        Check.same("planetCount", shop.planetCount(), 1);
+        Check.same("the other gear carries none", shop.addPlanet(2), 1);
+        Check.same("undo of the second planet", shop.undo(), 0);
+        Check.same("gearOf(0) after undo", shop.gearOf(0), 1);
     }
 
     private static void snapshot() {

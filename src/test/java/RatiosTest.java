@@ -4,6 +4,7 @@ public final class RatiosTest {
         wrongNumbers();
         fewGears();
         fourGears();
+        otherGearsLater();
         equalGears();
         everyRatio();
         Check.end("RatiosTest");
@@ -71,6 +72,19 @@ public final class RatiosTest {
         due(shop, 15, 2, 0);
     }
 
+    /** What was found for other gears is forgotten. */
+    private static void otherGearsLater() {
+        PlanetWorkshop shop = Tools.withGears(60, 20);
+        due(shop, 3, 1, 1);
+        shop.undo();
+        shop.addGear(15);
+        due(shop, 3, 1, 0);
+        due(shop, 4, 1, 1);
+        due(shop, 1, 4, 1);
+        shop.undo();
+        due(shop, 4, 1, 0);
+    }
+
     private static void equalGears() {
         PlanetWorkshop shop = Tools.withGears(60, 60, 20, 20);
         due(shop, 1, 1, 1);
@@ -88,8 +102,8 @@ public final class RatiosTest {
     /** With all ten gears, against a search that is written out here. */
     private static void everyRatio() {
         int[] teeth = {6, 8, 10, 12, 15, 20, 24, 30, 40, 60};
-        PlanetWorkshop shop = Tools.withGears(teeth);
         for (int a = 1; a <= 60; a++) {
+            PlanetWorkshop shop = Tools.withGears(teeth);
             for (int b = 1; b <= 60; b++) {
                 int pairs = fewest(teeth, a, b);
                 try {

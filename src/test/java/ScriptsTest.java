@@ -8,6 +8,7 @@ public final class ScriptsTest {
         failures();
         allOrNone();
         positionsStay();
+        earlierTextIsForgotten();
         Check.end("ScriptsTest");
     }
 
@@ -138,7 +139,10 @@ public final class ScriptsTest {
     private static void fullBuffer() {
         String text = "buy 1;buy 1;buy 1;buy 1;buy 1;buy 1;buy 1;buy 1;buy 1;buy 1;";
         wrongAt(60, text);
-        wrongAt(60, text.substring(0, 54) + "rever ".substring(0, 5) + "s");
+        wrongAt(60, text.substring(0, 54) + "revers");
+        wrongAt(60, text.substring(0, 54) + "wind 0");
+        wrongAt(60, text.substring(0, 54) + "mesh 0");
+        wrongAt(60, text.substring(0, 48) + "spring 0 9;b");
         PlanetWorkshop shop = new PlanetWorkshop();
         Check.same("59 characters", Tools.run(shop, text.substring(0, 59)), 10);
         Check.same("drops", shop.drops(), 22);
@@ -200,6 +204,27 @@ public final class ScriptsTest {
         Check.same("undo", shop.undo(), 3);
         Check.same("undo", shop.undo(), 2);
         Check.same("planetCount", shop.planetCount(), 0);
+    }
+
+    /** A shorter script must not be continued by the signs of a longer one before it. */
+    private static void earlierTextIsForgotten() {
+        PlanetWorkshop shop = Tools.withGears(20, 60);
+        Tools.run(shop, "spring 0 99;wind 0 55");
+        Tools.typeText(shop, "spring 0");
+        Check.refused("runScript", Tools.ARGUMENT, shop::runScript);
+        Check.same("errorPosition", shop.errorPosition(), 8);
+        Tools.typeText(shop, "buy 10");
+        shop.runScript();
+        Tools.run(shop, "buy 1");
+        Check.same("drops", shop.drops(), 23);
+        Tools.typeText(shop, "buy 1;buy 1");
+        shop.runScript();
+        Check.same("one command", Tools.run(shop, "buy 1"), 1);
+        Tools.typeText(shop, "mesh 01");
+        shop.runScript();
+        Tools.typeText(shop, "mesh");
+        Check.refused("runScript", Tools.ARGUMENT, shop::runScript);
+        Check.same("errorPosition", shop.errorPosition(), 4);
     }
 
     private static void positionsStay() {
