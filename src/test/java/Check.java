@@ -3,14 +3,26 @@ import java.util.Objects;
 /** Counts and prints the answers that are not as due. */
 final class Check {
     private static int wrong = 0;
+    private static int count = 0;
+    private static String subject = "";
 
     private Check() {
     }
 
+    /** What the next checks are about is printed with each wrong answer. */
+    static void about(String text) {
+        subject = text.isEmpty() ? "" : "[" + text + "] ";
+    }
+
+    static int count() {
+        return count;
+    }
+
     static void same(String call, Object got, Object due) {
+        count++;
         if (!Objects.equals(got, due)) {
             wrong++;
-            System.out.println(call + " answered " + got + ", due is " + due);
+            System.out.println(subject + call + " answered " + got + ", due is " + due);
         }
     }
 
