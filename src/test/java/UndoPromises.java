@@ -16,6 +16,8 @@ final class UndoPromises {
         told.promise(58, "Restores the snapshot, which is kept. Afterwards there is nothing to undo.",
                 UndoPromises::restores);
         told.promise(58, "Restores the snapshot, which is kept. Afterwards there is nothing to undo.",
+                UndoPromises::restoresOtherGears);
+        told.promise(58, "Restores the snapshot, which is kept. Afterwards there is nothing to undo.",
                 UndoPromises::nothingToUndoAfterwards);
         told.promise(58, "Returns the number of gears.", UndoPromises::gearsOfRestore);
         told.promise(58, "Throws IllegalStateException if there is no snapshot",
@@ -143,6 +145,21 @@ final class UndoPromises {
         shop.undo();
         shop.undo();
         Check.same("undo of later changes", View.state(shop), seen);
+    }
+
+    /** Other gears and planets stand in the places of those in the snapshot. */
+    private static void restoresOtherGears() {
+        PlanetWorkshop shop = new PlanetWorkshop();
+        Tools.run(shop, "gear 20;gear 60;mesh 01;planet 1;planet 0");
+        shop.save();
+        String seen = View.state(shop);
+        shop.undo();
+        Tools.run(shop, "gear 6;gear 8;axle 01;planet 0;planet 1;oil 0;oil 1");
+        shop.restore();
+        Check.same("restore()", View.state(shop), seen);
+        Check.same("teeth(0)", shop.teeth(0), 20);
+        Check.same("gearOf(0)", shop.gearOf(0), 1);
+        Check.same("unitsPerTurn(0, 1)", shop.unitsPerTurn(0, 1), -Tools.TURN / 3);
     }
 
     private static void nothingToUndoAfterwards() {
